@@ -511,17 +511,14 @@ public final class DayWords {
     return voted;
   }
 
-  private static int lowestWeekday(int pattern) {
-    return Integer.numberOfTrailingZeros(pattern);
+  /** The weekdays of a pattern with which a row of weekdays one behind the other begins. */
+  private static int rowStarts(int pattern) {
+    return pattern & ~(pattern << 1);
   }
 
-  /** The last weekday of the row of weekdays in a pattern that begins with this one. */
-  private static int rowEnd(int pattern, int weekday) {
-    int last = weekday;
-    while (last + 1 < WEEK && (pattern >> last + 1 & 1) != 0) {
-      last++;
-    }
-    return last;
+  /** How many weekdays of a pattern stand one behind the other from this one on. */
+  private static int rowSize(int pattern, int weekday) {
+    return Integer.numberOfTrailingZeros(~(pattern >> weekday));
   }
 
   /** The bytes that wait to be read. */
@@ -589,7 +586,7 @@ public final class DayWords {
       period = days;
       first = weekday;
       for (int pattern = 1; pattern < PATTERNS; pattern++) {
-        int lowest = lowestWeekday(pattern);
+        int lowest = Integer.numberOfTrailingZeros(pattern);
         int bits = patternDays[pattern & pattern - 1];
         for (int day = (lowest + WEEK - first) % WEEK; day < period; day += WEEK) {
           bits |= 1 << day;
@@ -1102,13 +1099,14 @@ public final class DayWords {
         return;
       }
       for (int weekday = 0; weekday < WEEK; weekday++) {
-        if ((pattern >> weekday & 1) != 0) {
+        if ((rowStarts(pattern) >> weekday & 1) != 0) {
+          int size = rowSize(pattern, weekday);
           putWord(words, lexicon.codes[MO + weekday]);
-          int end = rowEnd(pattern, weekday);
-          if (end - weekday >= 2) {
+          if (size > 2) {
             putWord(words, '-');
-            putWord(words, lexicon.codes[MO + end]);
-            weekday = end;
+          }
+          if (size > 1) {
+            putWord(words, lexicon.codes[MO + weekday + size - 1]);
           }
         }
       }
@@ -1225,10 +1223,8 @@ public final class DayWords {
       }
       int tokens = 0;
       for (int weekday = 0; weekday < WEEK; weekday++) {
-        if ((pattern >> weekday & 1) != 0) {
-          int end = rowEnd(pattern, weekday);
-          tokens += Math.min(3, end - weekday + 1);
-          weekday = end;
+        if ((rowStarts(pattern) >> weekday & 1) != 0) {
+          tokens += Math.min(3, rowSize(pattern, weekday));
         }
       }
       return tokens;
