@@ -63,7 +63,11 @@ public final class ActTest {
     CHECK.due("flips of 3", x.flips(3, 0), -2);
     CHECK.due("flips of -1", x.flips(-1, 0), -2);
     CHECK.due("acts stay", x.count(4), 2);
-    CHECK.due("words behind flips", x.flips(0, 2), x.words(0));
+    // DAYS 4 and 7 are a FEAST's: its name is told.
+    Check.sets(x, 2, "also ab 0 3 8 9 10 11");
+    Check.sets(x, 2, "daily not 4");
+    CHECK.due("flips to a feast's days", x.flips(2, 7), 3);
+    CHECK.due("words behind flips", x.words(2), 3);
     CHECK.due("others stay", x.days(1), 0b01000000100000);
   }
 

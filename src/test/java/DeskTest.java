@@ -156,6 +156,14 @@ public final class DeskTest {
     CHECK.due("words of the new desk", x.words(0), 1);
     CHECK.due("days of the new desk", x.days(0), 3);
     CHECK.due("a feast of the old one", Check.tells(x, "also ab"), -4);
+    // The same DAYS in another PERIOD have other WORDS.
+    CHECK.due("words here", x.words(0), 1);
+    CHECK.due("a longer period", Check.desk(x, "desk days 20 first fr;feast z 0 1;train 2 at 2:daily to 1;"), 3);
+    CHECK.due("the same days", x.days(0), 3);
+    CHECK.due("words there", x.words(0), 2);
+    CHECK.due("text there", Check.text(x, 0), "also z");
+    CHECK.due("another name", Check.desk(x, "desk days 20 first fr;feast zy 0 1;train 2 at 2:daily to 1;"), 3);
+    CHECK.due("text by it", Check.text(x, 0), "also zy");
     CHECK.due("no desk", Check.desk(x, "  \n"), 0);
     CHECK.due("fault of no desk", x.fault(0), 0);
     CHECK.due("place of no desk", x.fault(1), -1);

@@ -44,6 +44,9 @@ public final class FaultTest {
     desk("desk days !4294967297 first mo;", 2);
     desk("desk days !18446744073709551617 first mo;", 2);
     desk("desk days 3 !3 first mo;", 1);
+    desk("desk days 3!;", 1);
+    desk("desk days!;", 1);
+    desk("desk!;", 1);
     desk("desk days 3 !mo;", 1);
     desk("desk days 3 first !may;", 1);
     desk("desk days 3 first !mod;", 1);
@@ -111,6 +114,16 @@ public final class FaultTest {
     desk(HEAD + "train 9 at 1439:never !train", 1);
     desk(HEAD + "train 9 at 1439:never;!;", 1);
     desk(HEAD + "train 9 at 1439:mo !:", 1);
+    desk(HEAD + "train 9!;", 1);
+    desk(HEAD + "train 9 at!;", 1);
+    desk(HEAD + "feast zz 1;feast az 2;train 1 at 1:not zz az !zz;", 2);
+    desk(HEAD + "feast zz 1;feast az 2;train 1 at 1:also zz 1 az !az;", 2);
+    desk(HEAD + "feast zz 1;feast az 2;train 1 at 1:also zz !z;", 1);
+    String all = Check.also((1 << 28) - 1) + " a b";
+    desk("desk days 28 first mo;feast a 1;feast b 2;train 1 at 1:" + all + " !0;", 2);
+    desk("desk days 28 first mo;feast a 1;feast b 2;train 1 at 1:" + all + " !b;", 2);
+    desk("desk days 28 first mo;feast a 1;feast b 2;train 1 at 1:" + all + " !28;", 2);
+    desk("desk days 28 first mo;feast a 1;feast b 2;train 1 at 1:" + all + " !c;", 1);
     String six = "train 1 at 1:mo;".repeat(6);
     desk(HEAD + six + "!train 1 at 1:mo;", 3);
     desk(HEAD + six + "!train", 3);
@@ -154,6 +167,8 @@ public final class FaultTest {
     wording("mo !mo", 2);
     wording("tu !mo", 2);
     wording("mo tu su !mo", 2);
+    wording("mo tu we th fr sa su !mo", 2);
+    wording("mo tu we th fr sa su !su", 2);
     wording("mo - we !tu", 2);
     wording("mo - we !we", 2);
     wording("mo - su !su", 2);
@@ -185,6 +200,8 @@ public final class FaultTest {
     wording("mo from 3 !tu", 1);
     wording("mo from 3 !daily to 4", 1);
     wording("mo to 3 tu!", 1);
+    wording("mo to 0 tu!", 1);
+    wording("mo to 0 tu !to 5", 1);
     wording("mo to 3 tu !to 5", 1);
     wording("mo to 3 tu !not 5", 1);
     wording("mo to 3 tu !daily", 1);

@@ -26,6 +26,7 @@ public final class SearchTest {
     for (int i = 0; i < 8; i++) {
       plainSearch(random, 28, random.nextInt(7), 2, 2);
     }
+    twoSpans();
     CHECK.finish("SearchTest");
   }
 
@@ -310,19 +311,31 @@ public final class SearchTest {
     }
     for (int round = 0; round < rounds; round++) {
       int days = someDays(random, n, first, feasts) & full;
-      if (days == 0) {
-        continue;
+      if (days != 0) {
+        plainSearch(n, first, feasts, days);
       }
-      Plain p = new Plain(n, first, feasts, days);
-      p.search();
-      String at = deskText(n, first, feasts) + " days " + days + " ";
-      DayWords x = Check.made(deskText(n, first, feasts));
-      Check.sets(x, 0, Check.also(days));
-      compare(at, x, n, p.tokens, p.ways, p.words);
-      CHECK.due(at + "plain", x.plain(0), p.plain);
-      for (int k = 0; k < 5; k++) {
-        CHECK.due(at + "within " + k, x.within(0, k), p.within[k]);
-      }
+    }
+  }
+
+  private static void plainSearch(int n, int first, int[] feasts, int days) {
+    Plain p = new Plain(n, first, feasts, days);
+    p.search();
+    String at = deskText(n, first, feasts) + " days " + days + " ";
+    DayWords x = Check.made(deskText(n, first, feasts));
+    Check.sets(x, 0, Check.also(days));
+    compare(at, x, n, p.tokens, p.ways, p.words);
+    CHECK.due(at + "plain", x.plain(0), p.plain);
+    for (int k = 0; k < 5; k++) {
+      CHECK.due(at + "within " + k, x.within(0, k), p.within[k]);
+    }
+  }
+
+  /** DAYS whose WORDS have two SPANS, with DAYS left out of both. */
+  private static void twoSpans() {
+    int[] feasts = {0b1001000001000, 0b100000110000000000000};
+    int[][] cases = {{2, 29459965}, {4, 200331427}, {0, 42405307}, {6, 236741607}, {5, 251450793}, {4, 232024209}};
+    for (int[] c : cases) {
+      plainSearch(28, c[0], feasts, c[1]);
     }
   }
 

@@ -99,6 +99,9 @@ public final class TrainTest {
     CHECK.due("flips", x.flips(3, 6), 2);
     CHECK.due("crowd by acts", x.crowd(6), 0b1010);
     CHECK.due("first of several", Check.made("desk days 5 first mo;train 1 at 1:tu th;train 1 at 1:we th;train 1 at 1:tu;").full(), 1);
+    CHECK.due("saved with names", Check.made("desk days 9 first mo;feast a 2 4;train 1 at 1:daily not a;train 2 at 1:also a;train 1 at 1:also a;").saved(),
+        3 + 2 + 2 - 1 - 2);
+    CHECK.due("saved with a name of joint days", Check.made("desk days 28 first mo;feast a 2 12;train 1 at 1:also 2;train 1 at 1:also 12;").saved(), 2 + 2 - 2);
     CHECK.due("least can be less than none", Check.made("desk days 7 first mo;train 1 at 1:daily to 2;train 1 at 1:fr;").saved(), 0);
   }
 

@@ -4,6 +4,7 @@ public final class WordsTest {
 
   public static void main(String[] args) {
     texts();
+    oneBehindTheOther();
     severalShortest();
     arguments();
     limits();
@@ -55,6 +56,29 @@ public final class WordsTest {
     CHECK.due("second first", x.span(0, 1, 0), 9);
     CHECK.due("second last", x.span(0, 1, 1), 27);
     CHECK.due("second weekdays", x.span(0, 1, 2), 5);
+  }
+
+  /** Nothing of WORDS asked for before stays in those that are asked for next. */
+  private static void oneBehindTheOther() {
+    DayWords x = Check.made("desk days 28 first mo;feast a 5 13 27;feast b 8 16 24;train 1 at 1:mo - fr not b 2 also a;train 2 at 2:never;"
+        + "train 3 at 3:daily not 7;train 4 at 4:daily not a b;");
+    int[] trains = {0, 1, 2, 1, 0, 3, 1, 3, 2, 0, 0};
+    String[] texts = {"mo - fr not b 2 also a", "never", "daily not 7", "daily not a b"};
+    int[] notFeasts = {2, 0, 0, 3};
+    int[] notDays = {4, 0, 128, 0};
+    for (int t : trains) {
+      CHECK.due("text of " + t, Check.text(x, t), texts[t]);
+      CHECK.due("spans of " + t, x.spans(t), t == 1 ? 0 : 1);
+      CHECK.due("not feasts of " + t, x.nots(t, 0), notFeasts[t]);
+      CHECK.due("not days of " + t, x.nots(t, 1), notDays[t]);
+      CHECK.due("also feasts of " + t, x.alsos(t, 0), t == 0 ? 1 : 0);
+      CHECK.due("also days of " + t, x.alsos(t, 1), 0);
+    }
+    Check.sets(x, 1, "also a");
+    CHECK.due("also a feast", x.alsos(1, 0), 1);
+    x.undo();
+    CHECK.due("also none", x.alsos(1, 0), 0);
+    CHECK.due("text again", Check.text(x, 1), "never");
   }
 
   private static void severalShortest() {
