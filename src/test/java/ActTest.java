@@ -142,6 +142,9 @@ public final class ActTest {
     CHECK.due("no acts", x.count(4), 0);
     CHECK.due("undo none", x.undo(), -5);
     CHECK.due("words as told", x.words(0), 3);
+    x.flips(2, 3);
+    CHECK.due("anew of one", x.anew(), 1);
+    CHECK.due("as told", x.days(2), 0);
   }
 
   private static void twentyActs() {
