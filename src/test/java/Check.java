@@ -27,6 +27,13 @@ final class Check {
   }
 
   static void tape(DayWords x, String text) {
+    if (!pour(x, text)) {
+      throw new IllegalStateException("no room on the tape for " + text);
+    }
+  }
+
+  /** Puts a text on the TAPE, by twenty bytes a call; false if they do not all find room. */
+  static boolean pour(DayWords x, String text) {
     byte[] bytes = text.getBytes(StandardCharsets.ISO_8859_1);
     int had = x.count(6);
     byte[] padded = Arrays.copyOf(bytes, (bytes.length + 19) / 20 * 20);
@@ -37,7 +44,7 @@ final class Check {
       }
       x.feed(v[0], v[1], v[2], v[3], v[4]);
     }
-    x.end(had + bytes.length);
+    return x.end(had + bytes.length) >= 0;
   }
 
   static DayWords made(String text) {
@@ -67,9 +74,30 @@ final class Check {
 
   static String text(DayWords x, int train) {
     StringBuilder b = new StringBuilder();
-    for (int i = 0; i < x.length(train); i++) {
+    int length = x.length(train);
+    for (int i = 0; i < length; i++) {
       b.append((char) x.sign(train, i));
     }
+    return b.toString();
+  }
+
+  /** Some forty answers that tell whether anything has changed, but for the bytes of the TAPE. */
+  static String look(DayWords x) {
+    StringBuilder b = new StringBuilder();
+    b.append("fault ").append(x.fault(0)).append(' ').append(x.fault(1)).append(" count");
+    for (int what = 0; what < 7; what++) {
+      b.append(' ').append(x.count(what));
+    }
+    b.append(" feasts ").append(x.feast(0)).append(' ').append(x.feast(1)).append(" trains");
+    for (int train = 0; train < 6; train++) {
+      b.append(' ').append(x.train(train, 0)).append(' ').append(x.train(train, 1)).append(' ').append(x.days(train));
+    }
+    b.append(" told");
+    for (int what = 0; what < 4; what++) {
+      b.append(' ').append(x.told(what));
+    }
+    b.append(" worse ").append(x.worse()).append(" saved ").append(x.saved());
+    b.append(" words ").append(x.words(0)).append(' ').append(x.length(0)).append(' ').append(x.ways(0));
     return b.toString();
   }
 

@@ -81,7 +81,7 @@ public final class StormTest {
       case 42: x.merges(); break;
       case 43: x.undo(); break;
       case 44: x.anew(); break;
-      default: Check.tape(x, anyText(random)); break;
+      default: Check.pour(x, anyText(random)); break;
     }
   }
 
