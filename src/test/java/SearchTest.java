@@ -27,6 +27,7 @@ public final class SearchTest {
       plainSearch(random, 28, random.nextInt(7), 2, 2);
     }
     twoSpans();
+    farEnds();
     CHECK.finish("SearchTest");
   }
 
@@ -336,6 +337,26 @@ public final class SearchTest {
     int[][] cases = {{2, 29459965}, {4, 200331427}, {0, 42405307}, {6, 236741607}, {5, 251450793}, {4, 232024209}};
     for (int[] c : cases) {
       plainSearch(28, c[0], feasts, c[1]);
+    }
+  }
+
+  /** The shortest and the longest PERIOD, FEASTS of one DAY and of all, DAYS of the ends alone and of every other one. */
+  private static void farEnds() {
+    int full = (1 << 28) - 1;
+    int others = 0x5555555;
+    int[][] feasts = {{}, {full}, {1, 1 << 27}, {others, others << 1}, {full - 1, full >> 1}};
+    int[] days = {1, 1 << 27, 1 | 1 << 27, full, full - 1, full >> 1, others, others << 1, 1 << 13 | 1 << 14, full ^ 3 << 13};
+    for (int[] f : feasts) {
+      for (int i = 0; i < days.length; i++) {
+        plainSearch(28, i % 7, f, days[i]);
+      }
+    }
+    for (int first = 0; first < 7; first++) {
+      plainSearch(1, first, new int[] {}, 1);
+      plainSearch(1, first, new int[] {1, 1}, 1);
+      plainSearch(2, first, new int[] {1, 3}, 3);
+      plainSearch(7, first, new int[] {1, 64}, 0b1000001);
+      plainSearch(8, first, new int[] {129, 126}, 0b10000001);
     }
   }
 

@@ -10,9 +10,9 @@ public final class StormTest {
 
   public static void main(String[] args) {
     Random random = new Random(46);
-    for (int round = 0; round < 400; round++) {
+    for (int round = 0; round < 700; round++) {
       DayWords x = round % 3 == 0 ? new DayWords() : Check.made(HEAD);
-      for (int call = 0; call < 400; call++) {
+      for (int call = 0; call < 200; call++) {
         anyCall(random, x);
       }
     }
@@ -98,6 +98,8 @@ public final class StormTest {
   private static void readers(Random random) {
     DayWords x = Check.made(HEAD);
     for (int i = 0; i < 20000; i++) {
+      // What an object answers behind its 512th call is free.
+      x = i % 20 == 0 ? Check.made(HEAD) : x;
       StringBuilder b = new StringBuilder();
       int many = 1 + random.nextInt(9);
       for (int k = 0; k < many; k++) {
