@@ -691,7 +691,17 @@ public final class DayWords {
       desk.clear();
       // A line more than there may be is always a FAULT, so the bound cuts nothing off.
       for (int line = 0; line <= MOST_LINES && kinds[at] != END; line++) {
-        if (!readLine(desk) || !take(SEMICOLON)) {
+        boolean good;
+        if (desk.lines == 0) {
+          good = readHead(desk);
+        } else if (kinds[at] == FEAST) {
+          good = readFeast(desk);
+        } else if (kinds[at] == TRAIN) {
+          good = readTrain(desk);
+        } else {
+          good = fail(CANT_STAND);
+        }
+        if (!good || !take(SEMICOLON)) {
           return false;
         }
         desk.lines++;
@@ -798,17 +808,6 @@ public final class DayWords {
 
     private boolean isWeekday() {
       return kinds[at] >= MO && kinds[at] < MO + WEEK;
-    }
-
-    private boolean readLine(Desk desk) {
-      if (desk.lines == 0) {
-        return readHead(desk);
-      }
-      switch (kinds[at]) {
-        case FEAST: return readFeast(desk);
-        case TRAIN: return readTrain(desk);
-        default: return fail(CANT_STAND);
-      }
     }
 
     private boolean readHead(Desk desk) {
