@@ -28,6 +28,7 @@ public final class SearchTest {
     }
     twoSpans();
     farEnds();
+    deskBehindDesk(random);
     CHECK.finish("SearchTest");
   }
 
@@ -357,6 +358,36 @@ public final class SearchTest {
       plainSearch(2, first, new int[] {1, 3}, 3);
       plainSearch(7, first, new int[] {1, 64}, 0b1000001);
       plainSearch(8, first, new int[] {129, 126}, 0b10000001);
+    }
+  }
+
+  /** In place of a longer or a shorter DESK all is found as by a new object. */
+  private static void deskBehindDesk(Random random) {
+    for (int round = 0; round < 40; round++) {
+      DayWords used = new DayWords();
+      for (int desk = 0; desk < 8; desk++) {
+        int n = 1 + random.nextInt(28);
+        int first = random.nextInt(7);
+        int[] feasts = new int[random.nextInt(3)];
+        for (int f = 0; f < feasts.length; f++) {
+          feasts[f] = 1 << random.nextInt(n) | 1 << random.nextInt(n);
+        }
+        String text = deskText(n, first, feasts);
+        int days = someDays(random, n, first, feasts) & (1 << n) - 1;
+        DayWords made = Check.made(text);
+        Check.desk(used, text);
+        Check.sets(made, 0, Check.also(days));
+        Check.sets(used, 0, Check.also(days));
+        String at = "behind another desk " + text + " days " + days + " ";
+        CHECK.due(at + "words", used.words(0), made.words(0));
+        CHECK.due(at + "ways", used.ways(0), made.ways(0));
+        CHECK.due(at + "plain", used.plain(0), made.plain(0));
+        CHECK.due(at + "within", used.within(0, 2), made.within(0, 2));
+        CHECK.due(at + "not days", used.nots(0, 1), made.nots(0, 1));
+        CHECK.due(at + "also days", used.alsos(0, 1), made.alsos(0, 1));
+        CHECK.due(at + "spans", used.spans(0), made.spans(0));
+        CHECK.due(at + "length", used.length(0), made.length(0));
+      }
     }
   }
 
