@@ -27,6 +27,7 @@ public final class SearchTest {
       plainSearch(random, 28, random.nextInt(7), 2, 2);
     }
     twoSpans();
+    nearTheBound();
     farEnds();
     deskBehindDesk(random);
     CHECK.finish("SearchTest");
@@ -339,6 +340,25 @@ public final class SearchTest {
     for (int[] c : cases) {
       plainSearch(28, c[0], feasts, c[1]);
     }
+  }
+
+  /** DAYS whose WORDS, or their ways, are lost if the cost of a SPAN is bounded by one TOKEN too few or too many. */
+  private static void nearTheBound() {
+    plainSearch(24, 0, new int[] {}, 5803123);
+    plainSearch(22, 1, new int[] {}, 3173147);
+    plainSearch(21, 2, new int[] {bits(0, 2, 6, 7)}, 995545);
+    plainSearch(28, 1, new int[] {bits(14, 25)}, 222236833);
+    plainSearch(28, 6, new int[] {bits(10, 19, 23, 26), bits(0, 14, 21, 25, 26)}, 156696812);
+    plainSearch(28, 6, new int[] {bits(1, 3, 21, 22, 23, 26, 27), bits(2, 5, 9, 15)}, 52339008);
+    plainSearch(28, 5, new int[] {bits(2, 4, 6, 9, 10, 22, 24, 27), bits(0, 3, 5, 10, 11, 13, 18, 21, 22)}, 193987286);
+  }
+
+  private static int bits(int... days) {
+    int sum = 0;
+    for (int d : days) {
+      sum |= 1 << d;
+    }
+    return sum;
   }
 
   /** The shortest and the longest PERIOD, FEASTS of one DAY and of all, DAYS of the ends alone and of every other one. */
