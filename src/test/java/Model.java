@@ -9,7 +9,7 @@ import java.util.regex.Matcher;
 import java.util.regex.Pattern;
 
 /**
- * The document once more, written plainly and without a look at the program: texts are cut by a
+ * The document once more, written plainly and in other ways than the program: texts are cut by a
  * pattern, a FAULT is thrown, DAYS are sets, acts are kept as copies. ModelTest holds the two
  * against one another.
  */
